@@ -184,6 +184,11 @@ public final class PromisesTest {
         x.tick(1);
         due.is("lease is gone", x.get(1, 4), LEASED);
         due.is("led 1000", x.led(3), 2);
+        x.look(1);
+        x.fill(1);
+        x.write(1, 4, 6);
+        x.get(1, 4);
+        due.is("an old one of 5", x.get(0, 4), 1005);
         due.is("led waits", x.led(2), 2);
     }
 
@@ -271,6 +276,10 @@ public final class PromisesTest {
         due.is("lease ends", x.beside(0, 1, 2), NOT);
         due.is("value", x.entry(0, 1, 0), 0);
         due.is("end", x.entry(0, 1, 5), 50);
+        x.get(0, 1);
+        x.write(0, 1, 5);
+        load(x, 0, 1);
+        due.is("no hits", x.entry(0, 1, 4), 0);
 
         x.get(0, 2);
         x.look(0);
@@ -1222,11 +1231,13 @@ public final class PromisesTest {
             "get 10", "get 100", "get 1000", "get 0001", "write 1", "write 1 ", "write 1 1000", "write 10 1", "write 1;",
             "write 1 2 3", "apply 3", "tick 0", "tick 51", "cold 6", "warm 6", "look 1", "fill;Look", "look;look;looks",
             "look;look;look;look;look;", "look;look;look;look;look;look", "look;look;look;look;look;?",
-            "look;look;look;look;look?", "look\0", "get\t1", "get -1", "get 1\u00ff", "{", "`"};
+            "look;look;look;look;look?", "look\0", "get\t1", "get -1", "get 1\u00ff", "{", "`", "book", "lookz", "lo", "kool",
+            "look{", "look`", "write 1 2x", "get /", "get :", "get 12x", "tick 50;tick 500"};
         int[] faults = {0, 0, 0, 0, 3, 3, 5, 4, 6, 6, 4,
             4, 4, 4, 7, 7, 8, 11, 6, 7,
             9, 6, 5, 5, 5, 5, 4, 5, 10,
-            25, 25, 25, 24, 4, 3, 4, 5, 0, 0};
+            25, 25, 25, 24, 4, 3, 4, 5, 0, 0, 0, 0, 0, 0,
+            4, 4, 9, 4, 4, 4, 13};
         for (int i = 0; i < texts.length; i++) {
             due.is("'" + texts[i] + "'", plan(x, 0, texts[i]), -100 - faults[i]);
             due.is("the tape is empty", x.count(5), 0);
@@ -1265,6 +1276,12 @@ public final class PromisesTest {
         due.is("refused acts do nothing", x.orders(32, 4, 4), 1);
         plan(x, 5, "cold 0;warm 0");
         due.is("cold ends it", x.orders(32, 4, 4), 0);
+        x.cold(1, 1);
+        x.go(5, 1);
+        plan(x, 5, "get 4;look;fill");
+        due.is("a cold group looks at its neighbour", x.orders(32, 4, 3), 0);
+        plan(x, 5, "warm 1;get 4;look;fill");
+        due.is("a warm one at the store", x.orders(32, 4, 2), 1);
     }
 
     private void ordersRefused() {
@@ -1306,6 +1323,8 @@ public final class PromisesTest {
         plan(x, 1, "get 4;look;fill;get 3;look");
         plan(x, 2, "write 4 17;apply 0;look;look");
         due.is("nine acts", x.witness(6, 0), STATE);
+        plan(x, 2, "write 4 17;apply 0;look");
+        due.is("eight acts", x.witness(6, 7), 2);
         x.get(1, 4);
         x.look(1);
         x.write(0, 4, 3);
@@ -1387,6 +1406,8 @@ public final class PromisesTest {
         due.is("none is written then", x.element(0, 2) + x.element(0, 3), 0);
         due.is("no place", x.save(0, -1, 0), -13);
         due.is("no place", x.save(0, Integer.MAX_VALUE, 0), -13);
+        due.is("from 0 on", x.save(0, 0, 0), 3);
+        x.row(0, 4);
         due.is("three", x.save(0, 1, 0), 3);
         due.is("ahead", x.element(0, 0), 0);
         due.is("by keys", x.element(0, 1), 2002022);
