@@ -795,11 +795,7 @@ public final class LookAsideCache {
 
         /** HOME's store runs ahead of HOME's place in the journal; the others' don't. */
         int storeVersion(int region, int key) {
-            return region == HOME ? cell[LAST_CELLS + key] : appliedVersion(region, key);
-        }
-
-        private int appliedVersion(int region, int key) {
-            return cell[APPLIED_CELLS + region * KEYS + key];
+            return cell[region == HOME ? LAST_CELLS + key : APPLIED_CELLS + region * KEYS + key];
         }
 
         int lastWriteUpTo(int key, int n) {
@@ -847,14 +843,19 @@ public final class LookAsideCache {
             return leastKey;
         }
 
+        /** Asked behind each of the orders: hence the way out, and steps from spot to spot in place of calls. */
         int outdatedKeys(int group) {
-            int region = group / 2;
+            if (placeOf(group / 2) == 0) {
+                return 0;
+            }
+            int applied = APPLIED_CELLS + group / 2 * KEYS;
+            int spot = spotAt(group, 0);
             int bits = 0;
             for (int key = 0; key < KEYS; key++) {
-                int spot = spotAt(group, key);
-                if (isAhead(spot + END) && cell[spot + VERSION] < appliedVersion(region, key)) {
+                if (cell[spot + VERSION] < cell[applied + key] && isAhead(spot + END)) {
                     bits |= 1 << key;
                 }
+                spot += SPOT_CELLS;
             }
             return bits;
         }
