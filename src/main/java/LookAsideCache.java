@@ -1157,12 +1157,11 @@ public final class LookAsideCache {
             return former;
         }
 
+        /** To go to one's own group is a going as any other: the hand ends there, too. */
         int move(int client, int group) {
             int former = groupOf(client);
-            if (former != group) {
-                cell[handAt(client) + GROUP_AT] = group;
-                endHand(client);
-            }
+            cell[handAt(client) + GROUP_AT] = group;
+            endHand(client);
             return former;
         }
 

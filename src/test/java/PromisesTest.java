@@ -525,13 +525,34 @@ public final class PromisesTest {
             due.is("no group", x.go(0, bad), BAD);
         }
         x.get(0, 1);
-        due.is("its own", x.go(0, 0), 0);
-        due.is("hand stays", x.client(0, 1), 1);
         due.is("where it was", x.go(0, 5), 0);
         due.is("hand ends", x.client(0, 1), NOT);
         due.is("lease stays", x.beside(0, 1, 2), 0);
         due.is("group", x.client(0, 0), 5);
-        due.is("counts as an act", x.count(8), 3);
+        due.is("counts as an act", x.count(8), 2);
+        goToOwnGroup();
+    }
+
+    private void goToOwnGroup() {
+        LookAsideCache x = fresh();
+        x.get(0, 1);
+        x.look(0);
+        x.get(1, 2);
+        due.is("its own", x.go(0, 0), 0);
+        due.is("is where it was", x.client(0, 0), 0);
+        due.is("hand ends at its own, too", x.client(0, 1), NOT);
+        due.is("no look", x.look(0), STATE);
+        due.is("no fill", x.fill(0), STATE);
+        due.is("the other's hand stays", x.client(1, 1), 2);
+        due.is("lease stays at its own", x.beside(0, 1, 2), 0);
+        due.is("its own lease, no new hand", x.get(0, 1), LEASED);
+        due.is("still no hand", x.client(0, 1), NOT);
+        due.is("hands", x.count(4), 1);
+        due.is("acts", x.count(8), 5);
+        x.undo();
+        due.is("one left to undo less", x.undo(), 3);
+        due.is("hand is back", x.client(0, 3), 1);
+        due.is("lookable again", x.look(0), 0);
     }
 
     private void set() {
@@ -1535,7 +1556,7 @@ public final class PromisesTest {
         x.get(0, 7);
         x.get(1, 7);
         x.get(1, 8);
-        x.go(0, 0);
+        x.go(3, 3);
         x.tick(4);
         plan(x, 4, "look");
         x.feed(1);

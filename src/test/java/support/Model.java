@@ -276,7 +276,7 @@ final class Model {
 
         int go(int c, int group) {
             int was = at[c];
-            if (was != group) hands[c] = null;
+            hands[c] = null;
             at[c] = group;
             return was;
         }
