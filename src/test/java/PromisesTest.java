@@ -1,11 +1,9 @@
 /** For each promise of the document: ordinary inputs, the edges that it names, wrong inputs. */
-public final class PromisesTest {
-    private static final int BAD = -1, NOT = -2, FULL = -3, WAITS = -4, STATE = -5, LEASED = -6;
+public final class PromisesTest extends Steps {
     private static final int[] NO_CLIENT = {-1, 6, Integer.MIN_VALUE, Integer.MAX_VALUE};
     private static final int[] NO_KEY = {-1, 10, Integer.MIN_VALUE, Integer.MAX_VALUE};
     private static final int[] NO_REGION = {-1, 3, Integer.MIN_VALUE, Integer.MAX_VALUE};
     private static final int[] NO_SHELF = {-1, 4, Integer.MIN_VALUE, Integer.MAX_VALUE};
-    private static final long NO_ELEMENT = Long.MIN_VALUE;
 
     private final Due due = new Due();
 
@@ -62,33 +60,6 @@ public final class PromisesTest {
         t.imageAndBack();
         t.count();
         t.due.end();
-    }
-
-    // ---- small steps that many tests take
-
-    private static LookAsideCache fresh() {
-        return new LookAsideCache();
-    }
-
-    /** The client misses, looks and fills. */
-    private static int load(LookAsideCache x, int client, int key) {
-        x.get(client, key);
-        x.look(client);
-        return x.fill(client);
-    }
-
-    private static int plan(LookAsideCache x, int client, String text) {
-        for (int i = 0; i < text.length(); i++) {
-            x.feed(text.charAt(i));
-        }
-        return x.plan(client);
-    }
-
-    private static void row(LookAsideCache x, int shelf, long... longs) {
-        x.row(shelf, longs.length);
-        for (int i = 0; i < longs.length; i++) {
-            x.put(shelf, i, longs[i]);
-        }
     }
 
     // ---- acts

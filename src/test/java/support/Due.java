@@ -1,3 +1,5 @@
+import java.util.List;
+
 /** Counts and prints the answers that are not as due. */
 final class Due {
     private int wrong;
@@ -11,6 +13,15 @@ final class Due {
         if (got != want) {
             wrong++;
             System.out.println(about + ": " + call + " answered " + got + ", due is " + want);
+        }
+    }
+
+    /** That two runs leave objects of which every question is answered alike. */
+    void alike(String call, List<String> one, List<String> other) {
+        String unlike = Whole.unlike(one, other);
+        if (!unlike.isEmpty()) {
+            wrong++;
+            System.out.println(about + ": " + call + ": " + unlike);
         }
     }
 
