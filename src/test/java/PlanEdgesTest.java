@@ -515,6 +515,13 @@ public final class PlanEdgesTest extends Steps {
         x.set(6, 0);
         due.is("without leases: one more at most", x.orders(33, 0, 3), 2);
         due.is("and one at least", x.orders(33, 0, 2), 1);
+        for (int r = 0; r < 3; r++) {
+            x.write(1, 7, 7);
+            plan(x, 1, "apply " + r);
+            due.is("an apply is no load", x.orders(2, 0, 2) + x.orders(2, 0, 3), 0);
+            plan(x, 1, "cold 0;cold 5;tick 9;write 7 8");
+            due.is("nor is any other", x.orders(2, 0, 3), 0);
+        }
     }
 
     private void ordersValues() {

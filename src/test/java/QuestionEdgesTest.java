@@ -42,6 +42,7 @@ public final class QuestionEdgesTest extends Steps {
         t.foreseenFromWhatIsThere();
         t.foreseenFullRow();
         t.countOneByOne();
+        t.countHands();
         t.due.end();
     }
 
@@ -882,5 +883,24 @@ public final class QuestionEdgesTest extends Steps {
         due.is("the same client's", x.count(6), 6);
         x.feed(0);
         due.is("the tape", x.count(5), 1);
+    }
+
+    private void countHands() {
+        due.about("44 count: CLIENTS with a HAND, and nothing else");
+        LookAsideCache x = fresh();
+        for (int key : new int[] {0, 9}) {
+            for (int c = 0; c < 6; c++) {
+                load(x, c, key);
+            }
+        }
+        while (x.count(0) < 60) {
+            x.write(x.count(0) % 6, x.count(0) % 2 * 9, 9);
+        }
+        due.is("none, though all is written", x.count(4), 0);
+        due.is("old copies", x.beside(0, 0, 1), 5);
+        for (int c = 0; c < 6; c++) {
+            x.get(c, 5);
+            due.is("one more", x.count(4), c + 1);
+        }
     }
 }

@@ -15,6 +15,7 @@ public final class ShelfEdgesTest extends Steps {
         t.saveNone();
         t.saveAllOrNone();
         t.saveWhatIsThere();
+        t.saveOfThisGroupAlone();
         t.restorePlaces();
         t.restoreOfNone();
         t.restoreEachLong();
@@ -229,6 +230,26 @@ public final class ShelfEdgesTest extends Steps {
         due.is("the other", x.element(0, 1), 9000);
         x.tick(1);
         due.is("both", x.save(0, 2, 4), 0);
+    }
+
+    private void saveOfThisGroupAlone() {
+        due.about("SAVED: of each ENTRY of a GROUP");
+        for (int g = 0; g < 6; g++) {
+            LookAsideCache x = fresh();
+            for (int c = 0; c < 6; c++) {
+                if (c != g) {
+                    load(x, c, 0);
+                    load(x, c, 9);
+                }
+            }
+            row(x, 0, -1, -2, -3);
+            due.is("none of the others'", x.save(0, 1, g), 0);
+            load(x, g, 4);
+            due.is("one", x.save(0, 1, g), 1);
+            due.is("ahead", x.element(0, 0), -1);
+            due.is("its own", x.element(0, 1), 4000);
+            due.is("behind", x.element(0, 2), -3);
+        }
     }
 
     // ---- restore
