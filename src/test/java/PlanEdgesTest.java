@@ -66,7 +66,7 @@ public final class PlanEdgesTest extends Steps {
         due.is("a fault at once", x.plan(0), -100);
         due.is("empty by it", x.count(5), 0);
         due.is("from the first again", x.feed(0), 1);
-        x.plan(0);
+        x = fresh();
         for (int n = 0; n < 160; n++) {
             x.feed('a');
         }
@@ -76,6 +76,7 @@ public final class PlanEdgesTest extends Steps {
             x.feed('0');
         }
         due.is("a number of 156 figures: the fourth", x.plan(0), -107);
+        x = fresh();
         feed(x, "look;look;look;look;look");
         for (int n = 24; n < 160; n++) {
             x.feed(';');

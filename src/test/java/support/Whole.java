@@ -10,7 +10,7 @@ final class Whole {
         void on(LookAsideCache x);
     }
 
-    private static final int LOT = 300;
+    private static final int LOT = 200;
     private static final int STEPS = 31;
 
     private final Run run;
