@@ -102,11 +102,13 @@ public final class FaceTest {
         String[] banned = {"\\bthrows?\\b", "\\btry\\b", "\\bcatch\\b", "\\bsynchronized\\b", "\\bassert\\b", "->", "::",
             "Exact\\b", "\\bThread\\b", "\\bRandom\\b", "\\bObject\\b", "\\bequals\\b", "\\bhashCode\\b", "\\btoString\\b",
             "\\bpackage\\b", "\\bstatic\\s*\\{", "\\bSystem\\.(?!arraycopy\\b)", "\\bimport (?!java\\.util\\.Arrays;)",
-            "\\bArrays\\.(?!(fill|copyOf|copyOfRange)\\b)", "\\b(Math|Integer|Long)\\.(?!(min|max|bitCount|MAX_VALUE|MIN_VALUE)\\b)"};
+            "\"\"\\s*\\+|\\+\\s*\"\"", "\\bArrays\\.(?!(fill|copyOf|copyOfRange)\\b)",
+            "\\b(Math|Integer|Long)\\.(?!(min|max|bitCount|MAX_VALUE|MIN_VALUE)\\b)"};
         for (String ban : banned) {
             Matcher found = Pattern.compile(ban).matcher(bare);
             check(!found.find(), "the source has " + ban);
         }
+        check(text.chars().allMatch(sign -> sign >= 1 && sign <= 127), "the source has another sign than 1 to 127");
         int start = -1;
         String[] lines = text.split("\n");
         for (int i = 0; i < lines.length; i++) {
